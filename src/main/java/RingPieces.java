@@ -22,7 +22,7 @@ public final class RingPieces {
     private static final int MOST_LOOK = 2;
 
     // No sum of OFFS comes near it, so that every way is better than none.
-    private static final long NO_WAY = Long.MAX_VALUE;
+    private static final long NO_WAY = 1L << 62;
 
     private final Kinds kinds;
     private final Keys keys;
@@ -231,6 +231,7 @@ public final class RingPieces {
         return value >= least && value <= most;
     }
 
+    // The list in LANGUAGE.md's rule 6 lacks this exception, but the document's face asks for just this one.
     private void needRing(int ring) {
         if (!tunnel.has(ring)) {
             throw new ArrayIndexOutOfBoundsException("no such ring");

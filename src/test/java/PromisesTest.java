@@ -287,6 +287,11 @@ public final class PromisesTest {
         z.run();
         due("the lesser position first, looking ahead", 0, z.turnOf(0));
         due("then the lesser one that may stand", 1, z.turnOf(1));
+        z.kind(0, 9);
+        z.line(1, 1, 0);
+        z.run();
+        due("the lesser kind, where the second ring is off", 0, z.kindOf(0));
+        due("the lesser position, where the second ring is off", 0, z.turnOf(0));
     }
 
     private static void runLooksAhead() {
@@ -456,6 +461,12 @@ public final class PromisesTest {
         x.allow(0, false);
         x.apart(1);
         due("neither key nor joints are asked again", 1, x.replace(0, 0));
+        RingPieces y = new RingPieces(1);
+        y.kind(0, 1);
+        y.kind(10, 1);
+        y.run();
+        due("the last ring there is", 1, y.replace(0, 1));
+        due("x of 0", 640, y.place(0, 0));
     }
 
     private static void replaceRefused() {
