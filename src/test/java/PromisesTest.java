@@ -32,8 +32,6 @@ public final class PromisesTest {
         left();
         list();
         count();
-        refusalsChangeNothing();
-        fullUse();
         System.out.println(wrong == 0 ? "all promises hold" : wrong + " answers are not as due");
         if (wrong != 0) {
             System.exit(1);
@@ -656,71 +654,5 @@ public final class PromisesTest {
         dueThrow("count(-1)", () -> x.count(-1));
         dueThrow("count(8)", () -> x.count(8));
         dueThrow("a very great number", () -> x.count(Integer.MAX_VALUE));
-    }
-
-    private static String picture(RingPieces x) {
-        StringBuilder b = new StringBuilder();
-        for (int what = 0; what < 8; what++) {
-            b.append(x.count(what)).append(' ');
-        }
-        for (int ring = 0; ring < x.count(0); ring++) {
-            b.append("| ").append(x.state(ring)).append(' ').append(x.kindOf(ring)).append(' ').append(x.turnOf(ring));
-            for (int axis = 0; axis < 4 && x.state(ring) > 0; axis++) {
-                b.append(' ').append(x.place(ring, axis));
-            }
-        }
-        return b.append("| ").append(x.sum()).append(' ').append(x.left(0)).append(' ').append(x.left(1)).toString();
-    }
-
-    private static void refusalsChangeNothing() {
-        part = "refusals change nothing";
-        RingPieces x = bend();
-        x.kind(5, 0);
-        x.build(1);
-        String before = picture(x);
-        x.kind(201, 1);
-        x.more(0, 0);
-        x.more(0, 100);
-        x.line(0, 1, 1);
-        x.line(1, 1, 10000001);
-        x.apart(0);
-        x.allow(16, false);
-        x.look(3);
-        x.build(0);
-        x.build(2);
-        x.survey(0, 1, 100001);
-        x.survey(1, 1, 1);
-        x.replace(0, 1);
-        x.replace(1, 1);
-        x.replace(1, 0);
-        due("the picture is as before: " + before + " and " + picture(x), true, before.equals(picture(x)));
-    }
-
-    /** As many calls as an object is made for, each as dear as it can be. */
-    private static void fullUse() {
-        part = "512 calls";
-        RingPieces x = new RingPieces(24);
-        for (int kind = 0; kind < 4; kind++) {
-            x.kind(200 - kind, 99);
-        }
-        x.look(2);
-        for (int ring = 0; ring < 24; ring++) {
-            x.line(ring, 10000000, -10000000);
-        }
-        for (int calls = 29; calls < 510; calls++) {
-            due("run()", 24, x.run());
-        }
-        due("count(7)", 481, x.count(7));
-        due("the sum does not wrap", true, x.sum() > 0);
-        RingPieces far = new RingPieces(1);
-        far.kind(0, 1);
-        far.line(0, -10000000, -10000000);
-        far.run();
-        far.build(1);
-        for (int calls = 4; calls < 510; calls++) {
-            far.survey(0, 100000, 100000);
-        }
-        due("x far away", 50600000, far.place(0, 0));
-        due("off far away", 2L * 60600000L * 60600000L, far.off(0));
     }
 }
