@@ -231,7 +231,7 @@ public final class RingPieces {
         return value >= least && value <= most;
     }
 
-    // The list in LANGUAGE.md's rule 6 lacks this exception, but the document's face asks for just this one.
+    // What the document asks to be thrown is thrown by a statement: no index of a row may ever be a wrong one.
     private void needRing(int ring) {
         if (!tunnel.has(ring)) {
             throw new ArrayIndexOutOfBoundsException("no such ring");

@@ -34,6 +34,8 @@ public final class FaceTest {
         "public int count(int) throws java.lang.ArrayIndexOutOfBoundsException",
     };
 
+    private static int wrong = 0;
+
     public static void main(String[] args) {
         Set<String> got = new TreeSet<>();
         for (Field f : RingPieces.class.getDeclaredFields()) {
@@ -46,12 +48,15 @@ public final class FaceTest {
             addIfSeen(got, m, m.toString());
         }
         Set<String> want = new TreeSet<>(Arrays.asList(FACE));
-        boolean isFinal = Modifier.isFinal(RingPieces.class.getModifiers());
-        if (!got.equals(want) || !isFinal || !namesAreApart()) {
-            System.out.println("the face is " + got + ", due is " + want + ", final: " + isFinal);
+        due("the face", want, got);
+        due("the class", "public final", Modifier.toString(RingPieces.class.getModifiers()));
+        namesAreApart();
+        insideIsHidden();
+        noStaticState(RingPieces.class);
+        System.out.println(wrong == 0 ? "the face is the document's" : wrong + " things are not as due");
+        if (wrong != 0) {
             System.exit(1);
         }
-        System.out.println("the face is the document's");
     }
 
     private static void addIfSeen(Set<String> got, Member member, String text) {
@@ -60,8 +65,15 @@ public final class FaceTest {
         }
     }
 
+    private static void due(String what, Object want, Object got) {
+        if (!got.equals(want)) {
+            wrong++;
+            System.out.println(what + ": it is " + got + ", due is " + want);
+        }
+    }
+
     /** LANGUAGE.md, rule 1: no private method bears the name of a public one. */
-    private static boolean namesAreApart() {
+    private static void namesAreApart() {
         Set<String> seen = new TreeSet<>();
         Set<String> hidden = new TreeSet<>();
         for (Method m : RingPieces.class.getDeclaredMethods()) {
@@ -73,9 +85,24 @@ public final class FaceTest {
             }
         }
         hidden.retainAll(seen);
-        if (!hidden.isEmpty()) {
-            System.out.println("names of public methods are used again: " + hidden);
+        due("names of public methods that are used again", Set.of(), hidden);
+    }
+
+    /** LANGUAGE.md, rule 1: classes inside are private or package-visible, and static. */
+    private static void insideIsHidden() {
+        for (Class<?> inside : RingPieces.class.getDeclaredClasses()) {
+            int marks = inside.getModifiers();
+            due(inside.getName() + ", seen from outside", false, Modifier.isPublic(marks) || Modifier.isProtected(marks));
+            due(inside.getName() + ", static", true, Modifier.isStatic(marks));
+            noStaticState(inside);
         }
-        return hidden.isEmpty();
+    }
+
+    /** LANGUAGE.md, rule 5: static fields are final. */
+    private static void noStaticState(Class<?> type) {
+        for (Field f : type.getDeclaredFields()) {
+            due(f + ", static but not final", false,
+                Modifier.isStatic(f.getModifiers()) && !Modifier.isFinal(f.getModifiers()));
+        }
     }
 }
