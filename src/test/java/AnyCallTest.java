@@ -33,7 +33,8 @@ public final class AnyCallTest {
             }
         }
         boolean asDue = wrong == 0 && thrown > 0;
-        System.out.println(asDue ? "nothing else is thrown" : wrong + " calls threw what is not due, " + thrown + " what is");
+        System.out.println(asDue ? "nothing else is thrown"
+            : wrong + " calls threw what is not due, " + thrown + " what is");
         if (!asDue) {
             System.exit(1);
         }

@@ -92,7 +92,8 @@ public final class FaceTest {
     private static void insideIsHidden() {
         for (Class<?> inside : RingPieces.class.getDeclaredClasses()) {
             int marks = inside.getModifiers();
-            due(inside.getName() + ", seen from outside", false, Modifier.isPublic(marks) || Modifier.isProtected(marks));
+            boolean seen = Modifier.isPublic(marks) || Modifier.isProtected(marks);
+            due(inside.getName() + ", seen from outside", false, seen);
             due(inside.getName() + ", static", true, Modifier.isStatic(marks));
             noStaticState(inside);
         }

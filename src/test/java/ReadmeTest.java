@@ -15,7 +15,8 @@ public final class ReadmeTest {
 
     public static void main(String[] args) throws IOException {
         namesEveryCall();
-        due("the example in README.md", between(HERE, "// as in README.md", "// so far"), between(README, "```java", "```"));
+        List<String> tested = between(HERE, "// as in README.md", "// so far");
+        due("the example in README.md", tested, between(README, "```java", "```"));
         example();
         System.out.println(wrong == 0 ? "README.md is right" : wrong + " things are not as due");
         if (wrong != 0) {
